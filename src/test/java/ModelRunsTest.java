@@ -1,0 +1,210 @@
+import java.lang.reflect.InvocationTargetException;
+import java.lang.reflect.Method;
+import java.lang.reflect.Modifier;
+import java.util.ArrayList;
+import java.util.Arrays;
+import java.util.Comparator;
+import java.util.List;
+
+/** All promises: long mixed runs of calls, each answer compared with that of PlainModel. */
+public final class ModelRunsTest {
+    private static final int RUNS = 400;
+    private static final int CALLS = 480;
+
+    private static final Method[] FACE = Arrays.stream(StreetAutomata.class.getDeclaredMethods())
+            .filter(method -> Modifier.isPublic(method.getModifiers()))
+            .sorted(Comparator.comparing(Method::getName)).toArray(Method[]::new);
+
+    private long seed;
+    private final List<String> told = new ArrayList<>();
+    private final StreetAutomata automata = new StreetAutomata();
+    private final PlainModel model = new PlainModel();
+
+    private ModelRunsTest(int run) {
+        seed = run * 7919L + 17;
+    }
+
+    public static void main(String[] args) throws ReflectiveOperationException {
+        for (int run = 0; run < RUNS; run++) {
+            if (!new ModelRunsTest(run).agrees(run)) {
+                System.exit(1);
+            }
+        }
+    }
+
+    /** A number from 0 to below - 1, always the same ones for the same run. */
+    private int pick(int below) {
+        seed = seed * 6364136223846793005L + 1442695040888963407L;
+        return (int) ((seed >>> 33) % below);
+    }
+
+    private static Method face(String name) {
+        return Arrays.stream(FACE).filter(method -> method.getName().equals(name)).findFirst().orElseThrow();
+    }
+
+    private boolean agrees(int run) throws ReflectiveOperationException {
+        int calls = 0;
+        while (calls < CALLS) {
+            int kind = pick(24);
+            if (kind < 2) {
+                calls += typeSomething();
+            } else if (kind < 6) {
+                // walkers have no chance to come far if they are not helped
+                call(face(kind < 4 ? "step" : kind < 5 ? "addWalker" : "setGate"));
+                calls++;
+            } else {
+                call(FACE[pick(FACE.length)]);
+                calls++;
+            }
+            if (told.get(told.size() - 1).contains("due is")) {
+                System.out.println("run " + run + ":");
+                told.forEach(System.out::println);
+                return false;
+            }
+        }
+        return true;
+    }
+
+    private int typeSomething() throws ReflectiveOperationException {
+        call("truncateInput", 0);
+        String text = pick(3) == 0 ? wordOfStreets() : patternText();
+        for (int from = 0; from < text.length(); from += 20) {
+            Object[] words = new Object[5];
+            for (int word = 0; word < 5; word++) {
+                int value = 0;
+                for (int index = from + 4 * word; index < from + 4 * word + 4; index++) {
+                    value = value << 8 | (index < text.length() ? text.charAt(index) : 0);
+                }
+                words[word] = value;
+            }
+            call("append", words);
+        }
+        call("truncateInput", text.length());
+        if (pick(2) != 0) {
+            call("compile", pick(2));
+            call("patternErrorKind");
+            call("patternErrorOffset");
+        }
+        return 5 + (text.length() + 19) / 20;
+    }
+
+    private String wordOfStreets() {
+        StringBuilder word = new StringBuilder();
+        for (int index = pick(6); index > 0; index--) {
+            word.append((char) ('a' + pick(pick(4) == 0 ? 6 : 3)));
+        }
+        if (pick(8) == 0) {
+            word.append((char) pick(256));
+        }
+        return word.toString();
+    }
+
+    private String patternText() {
+        StringBuilder text = new StringBuilder();
+        choice(text, 0);
+        if (pick(6) == 0 && text.length() < 180) {
+            String signs = "abc.()|*+? g\u00e1";
+            text.insert(pick(text.length() + 1), signs.charAt(pick(signs.length())));
+        }
+        return text.length() > 200 ? text.substring(0, 200) : text.toString();
+    }
+
+    private void choice(StringBuilder text, int depth) {
+        branch(text, depth);
+        while (pick(3) == 0) {
+            text.append('|');
+            branch(text, depth);
+        }
+    }
+
+    private void branch(StringBuilder text, int depth) {
+        for (int pieces = pick(4); pieces > 0; pieces--) {
+            if (pick(3) == 0 && depth < 4) {
+                text.append('(');
+                choice(text, depth + 1);
+                text.append(')');
+            } else {
+                text.append(pick(6) == 0 ? '.' : (char) ('a' + pick(pick(3) == 0 ? 6 : 2)));
+            }
+            while (pick(4) == 0) {
+                text.append("*+?".charAt(pick(3)));
+            }
+        }
+    }
+
+    /** What the parameters of a method are: slot, street, state, position, walker, length, index, number. */
+    private static String kindsOf(String name) {
+        return switch (name) {
+            case "addWalker", "compile", "copyPattern" -> "S";
+            case "removeWalker", "walkWord", "restartWalker", "walkerSlot", "walkerState", "walkerSteps", "stepsHome",
+                    "streetHome" -> "W";
+            case "meetingSteps" -> "WW";
+            case "step" -> "WT";
+            case "setGate" -> "TBB";
+            case "setNight" -> "B";
+            case "isPassable" -> "T";
+            case "streetAt", "followPositions", "isDeterministicAt" -> "SP";
+            case "transition" -> "SQT";
+            case "isAccepting", "statePositions", "distanceToAccepting", "walkersInState" -> "SQ";
+            case "areEquivalentStates" -> "SQQ";
+            case "wordCount", "wordCountWithPrefix" -> "SL";
+            case "writeWord" -> "SLN";
+            case "truncateInput", "reportByte" -> "I";
+            case "append" -> "IIIII";
+            default -> "S";
+        };
+    }
+
+    private Object argument(char kind, Object[] before) {
+        if (kind == 'B') {
+            return pick(4) != 0;
+        }
+        if (kind == 'N') {
+            return (long) pick(pick(2) == 0 ? 3 : 40) - 1;
+        }
+        if (pick(25) == 0) {
+            int[] odd = {-1, 2, 6, 21, 25, 60, Integer.MIN_VALUE, Integer.MAX_VALUE};
+            return odd[pick(odd.length)];
+        }
+        boolean slotIsGood = before.length > 0 && (before[0].equals(0) || before[0].equals(1));
+        int slot = slotIsGood ? (int) before[0] : 0;
+        return switch (kind) {
+            case 'S' -> pick(2);
+            case 'T' -> pick(6);
+            case 'Q' -> pick(model.stateCount(slot));
+            case 'P' -> 1 + pick(model.positionCount(slot) + 1);
+            case 'W' -> pick(model.walkerCount() + (model.walkerCount() == 0 ? 1 : 0));
+            case 'L' -> pick(pick(3) == 0 ? 21 : 5);
+            default -> pick(8);
+        };
+    }
+
+    private void call(Method method) throws ReflectiveOperationException {
+        Object[] arguments = new Object[method.getParameterCount()];
+        for (int index = 0; index < arguments.length; index++) {
+            arguments[index] = argument(kindsOf(method.getName()).charAt(index), index == 0 ? new Object[0] : arguments);
+        }
+        call(method.getName(), arguments);
+    }
+
+    private void call(String name, Object... arguments) throws ReflectiveOperationException {
+        String got = answer(automata, name, arguments);
+        String want = answer(model, name, arguments);
+        String line = "  " + name + Arrays.toString(arguments) + " answered " + got;
+        told.add(got.equals(want) ? line : line + ", due is " + want);
+    }
+
+    private static String answer(Object whose, String name, Object[] arguments) throws ReflectiveOperationException {
+        for (Method method : whose.getClass().getDeclaredMethods()) {
+            if (method.getName().equals(name) && method.getParameterCount() == arguments.length) {
+                method.setAccessible(true);
+                try {
+                    return method.invoke(whose, arguments).toString();
+                } catch (InvocationTargetException e) {
+                    return "throws." + e.getCause().getClass().getSimpleName();
+                }
+            }
+        }
+        throw new NoSuchMethodException(name);
+    }
+}
