@@ -38,7 +38,7 @@ public final class StreetAutomata {
     private static final String TEXT_OF_SLOT_1 = "(ab|ac)*d?";
 
     private final Input input;
-    private final Compiler compiler;
+    private final PatternReader reader;
     private final World now;
     private final History history;
     private final World snapshot;
@@ -53,16 +53,16 @@ public final class StreetAutomata {
 
     public StreetAutomata() {
         Input text = new Input();
-        Compiler reader = new Compiler();
+        PatternReader first = new PatternReader();
         text.put(TEXT_OF_SLOT_0);
-        reader.read(text);
-        Pattern zero = new Pattern(reader);
+        first.read(text);
+        Pattern zero = new Pattern(first);
         text.put(TEXT_OF_SLOT_1);
-        reader.read(text);
-        Pattern one = new Pattern(reader);
+        first.read(text);
+        Pattern one = new Pattern(first);
         text.shorten(0);
         input = text;
-        compiler = reader;
+        reader = first;
         now = new World(zero, one);
         history = new History(zero, one);
         snapshot = new World(zero, one);
@@ -104,13 +104,13 @@ public final class StreetAutomata {
 
     public int compile(int slot) throws IndexOutOfBoundsException {
         checkSlot(slot);
-        errorKind = compiler.read(input);
-        errorOffset = errorKind == NO_ERROR ? NONE : compiler.errorOffset();
+        errorKind = reader.read(input);
+        errorOffset = errorKind == NO_ERROR ? NONE : reader.errorOffset();
         input.shorten(0);
         if (errorKind != NO_ERROR) {
             return NONE;
         }
-        Pattern pattern = new Pattern(compiler);
+        Pattern pattern = new Pattern(reader);
         history.remember(now);
         now.putPattern(slot, pattern);
         return pattern.positions;
@@ -689,7 +689,7 @@ public final class StreetAutomata {
     }
 
     /** Reads a pattern and builds both of its automata, in rows that the next pattern uses again. */
-    private static final class Compiler {
+    private static final class PatternReader {
         /** The set of the first state: bit 0 is the start state of the position automaton. */
         private static final int START_SET = 1;
 
@@ -705,7 +705,7 @@ public final class StreetAutomata {
         private final Level outermost;
         private Level level;
 
-        Compiler() {
+        PatternReader() {
             outermost = new Level(null);
             Level innermost = outermost;
             for (int open = 0; open < OPEN_LIMIT; open++) {
@@ -917,7 +917,7 @@ public final class StreetAutomata {
         private final int[] sets;
         private final int[] after;
 
-        Pattern(Compiler from) {
+        Pattern(PatternReader from) {
             Part whole = from.whole();
             positions = from.positions;
             loops = from.loops;
@@ -959,7 +959,7 @@ public final class StreetAutomata {
         }
 
         int positionsIn(int state) {
-            return isIndex(state, states) && state < sets.length ? sets[state] & ~Compiler.START_SET : 0;
+            return state >= 0 && state < states && state < sets.length ? sets[state] & ~PatternReader.START_SET : 0;
         }
 
         int emptySetState() {
@@ -1001,13 +1001,13 @@ public final class StreetAutomata {
             long next = 0;
             for (int state = 0; state < states; state++) {
                 if ((someStates >> state & 1) != 0) {
-                    next |= aliveAfter(state);
+                    next |= aliveAfterState(state);
                 }
             }
             return next;
         }
 
-        private long aliveAfter(int state) {
+        private long aliveAfterState(int state) {
             long next = 0;
             for (int street = 0; street < STREETS; street++) {
                 int target = after(state, street);

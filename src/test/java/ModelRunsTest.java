@@ -15,13 +15,13 @@ public final class ModelRunsTest {
             .filter(method -> Modifier.isPublic(method.getModifiers()))
             .sorted(Comparator.comparing(Method::getName)).toArray(Method[]::new);
 
-    private long seed;
+    private final Texts texts;
     private final List<String> told = new ArrayList<>();
     private final StreetAutomata automata = new StreetAutomata();
     private final PlainModel model = new PlainModel();
 
     private ModelRunsTest(int run) {
-        seed = run * 7919L + 17;
+        texts = new Texts(run * 7919L + 17);
     }
 
     public static void main(String[] args) throws ReflectiveOperationException {
@@ -32,10 +32,8 @@ public final class ModelRunsTest {
         }
     }
 
-    /** A number from 0 to below - 1, always the same ones for the same run. */
     private int pick(int below) {
-        seed = seed * 6364136223846793005L + 1442695040888963407L;
-        return (int) ((seed >>> 33) % below);
+        return texts.pick(below);
     }
 
     private static Method face(String name) {
@@ -100,36 +98,12 @@ public final class ModelRunsTest {
     }
 
     private String patternText() {
-        StringBuilder text = new StringBuilder();
-        choice(text, 0);
+        StringBuilder text = new StringBuilder(texts.pattern());
         if (pick(6) == 0 && text.length() < 180) {
             String signs = "abc.()|*+? g\u00e1";
             text.insert(pick(text.length() + 1), signs.charAt(pick(signs.length())));
         }
         return text.length() > 200 ? text.substring(0, 200) : text.toString();
-    }
-
-    private void choice(StringBuilder text, int depth) {
-        branch(text, depth);
-        while (pick(3) == 0) {
-            text.append('|');
-            branch(text, depth);
-        }
-    }
-
-    private void branch(StringBuilder text, int depth) {
-        for (int pieces = pick(4); pieces > 0; pieces--) {
-            if (pick(3) == 0 && depth < 4) {
-                text.append('(');
-                choice(text, depth + 1);
-                text.append(')');
-            } else {
-                text.append(pick(6) == 0 ? '.' : (char) ('a' + pick(pick(3) == 0 ? 6 : 2)));
-            }
-            while (pick(4) == 0) {
-                text.append("*+?".charAt(pick(3)));
-            }
-        }
     }
 
     /** What the parameters of a method are: slot, street, state, position, walker, length, index, number. */
@@ -182,7 +156,8 @@ public final class ModelRunsTest {
     private void call(Method method) throws ReflectiveOperationException {
         Object[] arguments = new Object[method.getParameterCount()];
         for (int index = 0; index < arguments.length; index++) {
-            arguments[index] = argument(kindsOf(method.getName()).charAt(index), index == 0 ? new Object[0] : arguments);
+            char kind = kindsOf(method.getName()).charAt(index);
+            arguments[index] = argument(kind, index == 0 ? new Object[0] : arguments);
         }
         call(method.getName(), arguments);
     }

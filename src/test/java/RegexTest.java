@@ -3,15 +3,14 @@ import java.util.regex.Pattern;
 /** Promises 5, 29, 30 and 37: which words a pattern accepts, compared with java.util.regex word by word. */
 public final class RegexTest {
     private static final int LONGEST = 5;
-    private static long seed = 1;
 
     public static void main(String[] args) {
+        Texts texts = new Texts(1);
         for (int run = 0; run < 400; run++) {
-            StringBuilder text = new StringBuilder();
-            choice(text, 0);
-            PlainPattern plain = new PlainPattern(text.toString());
+            String text = texts.pattern();
+            PlainPattern plain = new PlainPattern(text);
             if (plain.errorKind == 0) {
-                compare(text.toString(), Pattern.compile(PlainPattern.regex(plain.tree, plain)));
+                compare(text, Pattern.compile(PlainPattern.regex(plain.tree, plain)));
             }
         }
         Due.end();
@@ -46,28 +45,5 @@ public final class RegexTest {
             sum += count(word + (char) ('a' + street), next[state][street], rest - 1, next, accepting, pattern, text);
         }
         return sum;
-    }
-
-    private static int pick(int below) {
-        seed = seed * 6364136223846793005L + 1442695040888963407L;
-        return (int) ((seed >>> 33) % below);
-    }
-
-    private static void choice(StringBuilder text, int depth) {
-        for (int branches = pick(3); branches >= 0; branches--) {
-            for (int pieces = pick(4); pieces > 0; pieces--) {
-                if (pick(3) == 0 && depth < 3) {
-                    text.append('(');
-                    choice(text, depth + 1);
-                    text.append(')');
-                } else {
-                    text.append(pick(6) == 0 ? '.' : (char) ('a' + pick(pick(3) == 0 ? 6 : 2)));
-                }
-                while (pick(4) == 0) {
-                    text.append("*+?".charAt(pick(3)));
-                }
-            }
-            text.append(branches > 0 ? "|" : "");
-        }
     }
 }

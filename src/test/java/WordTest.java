@@ -87,6 +87,7 @@ public final class WordTest {
         Due.same("38: longer than the word", prefixed(".*", "abd", 2), 0);
         Due.same("38: no letter", prefixed(".*", "a.", 4), 0);
         Due.same("38: no letter", prefixed(".*", "g", 4), 0);
+        Due.same("38: no letter, 60 states", prefixed("d.*a....|c.*a...|eeeeeeee", "g", 5), 0);
         Due.same("38: no letter, and longer", prefixed(".*", "ab\0", 1), 0);
         Due.same("38: empty word", prefixed("a*", "", 0), 1);
         Due.same("38: 21 letters", prefixed(".*", "a".repeat(21), 20), 0);

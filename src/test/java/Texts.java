@@ -1,0 +1,46 @@
+/** Texts of patterns as by chance, but always the same ones for the same seed. */
+final class Texts {
+    private static final int DEEPEST = 3;
+
+    private long seed;
+
+    Texts(long seed) {
+        this.seed = seed;
+    }
+
+    /** A number from 0 to below - 1. */
+    int pick(int below) {
+        seed = seed * 6364136223846793005L + 1442695040888963407L;
+        return (int) ((seed >>> 33) % below);
+    }
+
+    /** A text that keeps to the grammar, though it may have too many positions or states. */
+    String pattern() {
+        StringBuilder text = new StringBuilder();
+        addChoice(text, 0);
+        return text.toString();
+    }
+
+    private void addChoice(StringBuilder text, int depth) {
+        addBranch(text, depth);
+        while (pick(3) == 0) {
+            text.append('|');
+            addBranch(text, depth);
+        }
+    }
+
+    private void addBranch(StringBuilder text, int depth) {
+        for (int pieces = pick(4); pieces > 0; pieces--) {
+            if (pick(3) == 0 && depth < DEEPEST) {
+                text.append('(');
+                addChoice(text, depth + 1);
+                text.append(')');
+            } else {
+                text.append(pick(6) == 0 ? '.' : (char) ('a' + pick(pick(3) == 0 ? 6 : 2)));
+            }
+            while (pick(4) == 0) {
+                text.append("*+?".charAt(pick(3)));
+            }
+        }
+    }
+}
