@@ -1,7 +1,6 @@
 /** Promises 42 to 45, and the words of 60 and 61: comparison of the two patterns. */
 public final class CompareTest {
     private static final int NONE = StreetAutomata.NONE;
-    private static final Class<IndexOutOfBoundsException> NO_INDEX = IndexOutOfBoundsException.class;
 
     public static void main(String[] args) {
         // zero, one, zero within one, one within zero, difference, shared word (null for none)
@@ -23,7 +22,6 @@ public final class CompareTest {
         longDifference();
         pairs();
         gatesDoNotMatter();
-        wrongIndexes();
         Due.end();
     }
 
@@ -84,12 +82,5 @@ public final class CompareTest {
         Due.same("45: closed", automata.reachablePairs(), 6);
         Due.same("60: closed", automata.writeDifference(), 1);
         Due.same("61: closed", automata.writeSharedWord(), 2);
-    }
-
-    private static void wrongIndexes() {
-        StreetAutomata automata = new StreetAutomata();
-        for (int slot : new int[] {-1, 2, Integer.MIN_VALUE, Integer.MAX_VALUE}) {
-            Due.refuses("42: slot", NO_INDEX, () -> automata.isSubset(slot));
-        }
     }
 }

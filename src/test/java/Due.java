@@ -3,8 +3,14 @@ import java.util.function.Supplier;
 /** What the tests share: comparing answers, making objects in a known state, and looking at one. */
 final class Due {
     private static int wrong = 0;
+    private static String about = "";
 
     private Due() {
+    }
+
+    /** What the next comparisons are about; it is told with those that fail. */
+    static void about(String what) {
+        about = what + ": ";
     }
 
     static void same(String what, long got, long want) {
@@ -18,7 +24,7 @@ final class Due {
     static void text(String what, String got, String want) {
         if (!got.equals(want)) {
             wrong++;
-            System.out.println(what + " answered " + got + ", due is " + want);
+            System.out.println(about + what + " answered " + got + ", due is " + want);
         }
     }
 
@@ -64,8 +70,8 @@ final class Due {
 
     static StreetAutomata with(String zero, String one) {
         StreetAutomata automata = new StreetAutomata();
-        compile(automata, 0, zero);
-        compile(automata, 1, one);
+        same("whether " + zero + " compiles", compile(automata, 0, zero) != StreetAutomata.NONE, true);
+        same("whether " + one + " compiles", compile(automata, 1, one) != StreetAutomata.NONE, true);
         return automata;
     }
 
@@ -77,23 +83,28 @@ final class Due {
         return text.toString();
     }
 
-    static String patterns(StreetAutomata automata) {
+    /** A pattern, by its position automaton and some numbers of its deterministic one. */
+    static String pattern(StreetAutomata automata, int slot) {
         StringBuilder text = new StringBuilder();
-        for (int slot = 0; slot < 2; slot++) {
-            text.append(" slot ").append(slot).append(' ').append(automata.firstPositions(slot));
-            text.append(' ').append(automata.lastPositions(slot)).append(' ').append(automata.acceptsEmptyWord(slot));
-            text.append(' ').append(automata.loopCount(slot)).append(' ');
-            for (int position = 1; position <= automata.positionCount(slot); position++) {
-                text.append(automata.streetAt(slot, position)).append('>');
-                text.append(automata.followPositions(slot, position)).append(' ');
-            }
-            for (int state = 0; state < automata.stateCount(slot); state++) {
-                text.append(automata.isAccepting(slot, state)).append(automata.transition(slot, state, 0));
-            }
+        text.append("first ").append(automata.firstPositions(slot));
+        text.append(" last ").append(automata.lastPositions(slot));
+        text.append(" empty ").append(automata.acceptsEmptyWord(slot));
+        text.append(" loops ").append(automata.loopCount(slot));
+        text.append(" streets>follow");
+        for (int position = 1; position <= automata.positionCount(slot); position++) {
+            text.append(' ').append(automata.streetAt(slot, position));
+            text.append('>').append(automata.followPositions(slot, position));
         }
+        text.append(" states ").append(automata.stateCount(slot));
+        text.append(" words ").append(automata.wordCount(slot, 20));
         return text.toString();
     }
 
+    static String patterns(StreetAutomata automata) {
+        return pattern(automata, 0) + " | " + pattern(automata, 1);
+    }
+
+    /** For example "false4 oocooo 1/3/2": by day, 4 steps in all, street c closed, a walker's slot, state and steps. */
     static String gatesAndWalkers(StreetAutomata automata) {
         StringBuilder text = new StringBuilder();
         text.append(automata.isNight()).append(automata.totalSteps()).append(' ');
@@ -112,11 +123,24 @@ final class Due {
         return patterns(automata) + " " + gatesAndWalkers(automata);
     }
 
+    /** Everything that undo restores; the change of the time is undone, but an undo more than 7 back is lost. */
+    static String bothTimes(StreetAutomata automata) {
+        boolean night = automata.isNight();
+        String now = world(automata);
+        automata.setNight(!night);
+        String other = gatesAndWalkers(automata);
+        automata.undo();
+        return now + " | " + other;
+    }
+
     /** All that can be seen of an object; it is of no use afterwards, for some things show only by a change. */
     static String everything(StreetAutomata automata) {
+        return automata.patternErrorKind() + "@" + automata.patternErrorOffset() + " " + allButError(automata);
+    }
+
+    static String allButError(StreetAutomata automata) {
         StringBuilder text = new StringBuilder();
         text.append(automata.inputLength()).append(' ').append(automata.undoCount()).append(' ');
-        text.append(automata.patternErrorKind()).append('@').append(automata.patternErrorOffset()).append(' ');
         text.append(report(automata)).append(' ').append(world(automata));
         text.append(" input ").append(automata.compile(0)).append('!');
         text.append(automata.patternErrorKind()).append('@').append(automata.patternErrorOffset());
@@ -128,8 +152,9 @@ final class Due {
         for (int time = 0; time < 9; time++) {
             text.append(automata.undo()).append(' ').append(gatesAndWalkers(automata)).append(' ');
         }
+        text.append(" before ").append(patterns(automata));
         text.append(" snapshot ").append(answer(() -> automata.restoreSnapshot()));
-        text.append(gatesAndWalkers(automata));
+        text.append(world(automata));
         return text.toString();
     }
 }

@@ -1,7 +1,6 @@
 /** Promises 20 to 27: the position automaton. */
 public final class PositionTest {
     private static final int NONE = StreetAutomata.NONE;
-    private static final Class<IndexOutOfBoundsException> NO_INDEX = IndexOutOfBoundsException.class;
 
     public static void main(String[] args) {
         // text, empty word, first, last, follows of each position, loops, deterministic positions
@@ -32,7 +31,6 @@ public final class PositionTest {
         streets();
         mostPositions();
         loopsAreCountedInTheText();
-        wrongIndexes();
         Due.end();
     }
 
@@ -94,27 +92,5 @@ public final class PositionTest {
         Due.same("26: of a new object", automata.loopCount(1), 1);
         Due.compile(automata, 0, "a");
         Due.same("26: none", automata.loopCount(0), 0);
-    }
-
-    private static void wrongIndexes() {
-        StreetAutomata automata = Due.with("ab", "");
-        for (int slot : new int[] {-1, 2, Integer.MIN_VALUE, Integer.MAX_VALUE}) {
-            Due.refuses("20: slot", NO_INDEX, () -> automata.positionCount(slot));
-            Due.refuses("21: slot", NO_INDEX, () -> automata.streetAt(slot, 1));
-            Due.refuses("22: slot", NO_INDEX, () -> automata.acceptsEmptyWord(slot));
-            Due.refuses("23: slot", NO_INDEX, () -> automata.firstPositions(slot));
-            Due.refuses("24: slot", NO_INDEX, () -> automata.lastPositions(slot));
-            Due.refuses("25: slot", NO_INDEX, () -> automata.followPositions(slot, 1));
-            Due.refuses("26: slot", NO_INDEX, () -> automata.loopCount(slot));
-            Due.refuses("27: slot", NO_INDEX, () -> automata.isDeterministicAt(slot, 1));
-        }
-        for (int position : new int[] {0, -1, 3, 24, 25, 1000, Integer.MIN_VALUE, Integer.MAX_VALUE}) {
-            Due.refuses("21: position", NO_INDEX, () -> automata.streetAt(0, position));
-            Due.refuses("25: position", NO_INDEX, () -> automata.followPositions(0, position));
-            Due.refuses("27: position", NO_INDEX, () -> automata.isDeterministicAt(0, position));
-        }
-        Due.refuses("21: no positions", NO_INDEX, () -> automata.streetAt(1, 1));
-        Due.refuses("25: no positions", NO_INDEX, () -> automata.followPositions(1, 1));
-        Due.refuses("27: no positions", NO_INDEX, () -> automata.isDeterministicAt(1, 1));
     }
 }

@@ -1,8 +1,6 @@
 /** Promises 59 to 62: the report. (What 60 and 61 write is compared in CompareTest.) */
 public final class ReportTest {
     private static final int NONE = StreetAutomata.NONE;
-    private static final Class<IndexOutOfBoundsException> NO_INDEX = IndexOutOfBoundsException.class;
-    private static final Class<IllegalArgumentException> NO_LENGTH = IllegalArgumentException.class;
 
     public static void main(String[] args) {
         writeWord();
@@ -10,7 +8,6 @@ public final class ReportTest {
         noSuchWord();
         writeDifferenceAndSharedWord();
         reportByte();
-        wrongArguments();
         Due.end();
     }
 
@@ -104,19 +101,5 @@ public final class ReportTest {
         }
         automata.writeWord(1, 0, 0);
         Due.same("62: an empty report", automata.reportByte(0), NONE);
-    }
-
-    private static void wrongArguments() {
-        StreetAutomata automata = new StreetAutomata();
-        automata.writeWord(0, 3, 1);
-        for (int slot : new int[] {-1, 2, Integer.MIN_VALUE, Integer.MAX_VALUE}) {
-            Due.refuses("59: slot", NO_INDEX, () -> automata.writeWord(slot, 2, 0));
-            Due.refuses("59: slot before length", NO_INDEX, () -> automata.writeWord(slot, 21, 0));
-        }
-        for (int length : new int[] {-1, 21, Integer.MIN_VALUE, Integer.MAX_VALUE}) {
-            Due.refuses("59: length", NO_LENGTH, () -> automata.writeWord(0, length, 0));
-            Due.refuses("59: length before number", NO_LENGTH, () -> automata.writeWord(0, length, -1));
-        }
-        Due.text("59: refused, the report stays", Due.report(automata), "acd");
     }
 }

@@ -1,7 +1,6 @@
 /** Promises 28 to 35: the deterministic automaton. */
 public final class StateTest {
     private static final int NONE = StreetAutomata.NONE;
-    private static final Class<IndexOutOfBoundsException> NO_INDEX = IndexOutOfBoundsException.class;
 
     public static void main(String[] args) {
         firstDefaultPattern();
@@ -11,7 +10,6 @@ public final class StateTest {
         equivalence();
         largest();
         gatesDoNotMatter();
-        wrongIndexes();
         Due.end();
     }
 
@@ -125,34 +123,5 @@ public final class StateTest {
         Due.text("29 to 33: all gates closed", table(automata, 0), before);
         Due.same("34: all gates closed", automata.areEquivalentStates(0, 0, 1), false);
         Due.same("35: all gates closed", automata.minimalStateCount(0), 4);
-    }
-
-    private static void wrongIndexes() {
-        StreetAutomata automata = new StreetAutomata();
-        for (int slot : new int[] {-1, 2, Integer.MIN_VALUE, Integer.MAX_VALUE}) {
-            Due.refuses("28: slot", NO_INDEX, () -> automata.stateCount(slot));
-            Due.refuses("29: slot", NO_INDEX, () -> automata.transition(slot, 0, 0));
-            Due.refuses("30: slot", NO_INDEX, () -> automata.isAccepting(slot, 0));
-            Due.refuses("31: slot", NO_INDEX, () -> automata.statePositions(slot, 0));
-            Due.refuses("32: slot", NO_INDEX, () -> automata.deadState(slot));
-            Due.refuses("33: slot", NO_INDEX, () -> automata.distanceToAccepting(slot, 0));
-            Due.refuses("34: slot", NO_INDEX, () -> automata.areEquivalentStates(slot, 0, 0));
-            Due.refuses("35: slot", NO_INDEX, () -> automata.minimalStateCount(slot));
-        }
-        for (int state : new int[] {-1, 6, 59, 60, 1000, Integer.MIN_VALUE, Integer.MAX_VALUE}) {
-            Due.refuses("29: state", NO_INDEX, () -> automata.transition(1, state, 0));
-            Due.refuses("30: state", NO_INDEX, () -> automata.isAccepting(1, state));
-            Due.refuses("31: state", NO_INDEX, () -> automata.statePositions(1, state));
-            Due.refuses("33: state", NO_INDEX, () -> automata.distanceToAccepting(1, state));
-            Due.refuses("34: state", NO_INDEX, () -> automata.areEquivalentStates(1, state, 0));
-            Due.refuses("34: other", NO_INDEX, () -> automata.areEquivalentStates(1, 0, state));
-            Due.refuses("34: both", NO_INDEX, () -> automata.areEquivalentStates(1, state, state));
-        }
-        for (int street : new int[] {-1, 6, Integer.MIN_VALUE, Integer.MAX_VALUE}) {
-            Due.refuses("29: street", NO_INDEX, () -> automata.transition(0, 0, street));
-        }
-        StreetAutomata uneven = Due.with("", "a(b|c)*d");
-        Due.refuses("29: a state of the other slot", NO_INDEX, () -> uneven.transition(0, 2, 0));
-        Due.refuses("30: a state of the other slot", NO_INDEX, () -> uneven.isAccepting(0, 2));
     }
 }

@@ -13,7 +13,6 @@ public final class WalkTest {
         totalSteps();
         homeShare();
         meanSetSize();
-        wrongIndexes();
         Due.end();
     }
 
@@ -211,26 +210,5 @@ public final class WalkTest {
         Due.text("58: no positions", "" + automata.meanSetSize(1), "0.0");
         Due.compile(automata, 1, "a");
         Due.text("58: a", "" + automata.meanSetSize(1), "" + (1.0 / 3.0));
-    }
-
-    private static void wrongIndexes() {
-        StreetAutomata automata = new StreetAutomata();
-        automata.addWalker(0);
-        automata.addWalker(1);
-        for (int walker : new int[] {-1, 2, 5, 6, Integer.MIN_VALUE, Integer.MAX_VALUE}) {
-            Due.refuses("49: walker", NO_INDEX, () -> automata.walkerSlot(walker));
-            Due.refuses("50: walker", NO_INDEX, () -> automata.walkerState(walker));
-            Due.refuses("51: walker", NO_INDEX, () -> automata.walkerSteps(walker));
-            Due.refuses("52: walker", NO_INDEX, () -> automata.stepsHome(walker));
-            Due.refuses("53: walker", NO_INDEX, () -> automata.streetHome(walker));
-            Due.refuses("55: walker", NO_INDEX, () -> automata.meetingSteps(walker, 0));
-        }
-        for (int slot : new int[] {-1, 2, Integer.MIN_VALUE, Integer.MAX_VALUE}) {
-            Due.refuses("54: slot", NO_INDEX, () -> automata.walkersInState(slot, 0));
-            Due.refuses("58: slot", NO_INDEX, () -> automata.meanSetSize(slot));
-        }
-        for (int state : new int[] {-1, 6, 60, Integer.MIN_VALUE, Integer.MAX_VALUE}) {
-            Due.refuses("54: state", NO_INDEX, () -> automata.walkersInState(0, state));
-        }
     }
 }

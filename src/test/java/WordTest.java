@@ -1,8 +1,6 @@
 /** Promises 36 to 41: words. */
 public final class WordTest {
     private static final int NONE = StreetAutomata.NONE;
-    private static final Class<IndexOutOfBoundsException> NO_INDEX = IndexOutOfBoundsException.class;
-    private static final Class<IllegalArgumentException> NO_LENGTH = IllegalArgumentException.class;
 
     public static void main(String[] args) {
         acceptsInput();
@@ -10,7 +8,6 @@ public final class WordTest {
         wordCountWithPrefix();
         lengths();
         gatesDoNotMatter();
-        wrongArguments();
         Due.end();
     }
 
@@ -141,24 +138,5 @@ public final class WordTest {
         Due.same("39: closed", automata.shortestLength(0), 2);
         Due.same("40: closed", automata.isFinite(0), false);
         Due.same("41: closed", automata.longestLength(0), NONE);
-    }
-
-    private static void wrongArguments() {
-        StreetAutomata automata = new StreetAutomata();
-        for (int slot : new int[] {-1, 2, Integer.MIN_VALUE, Integer.MAX_VALUE}) {
-            Due.refuses("36: slot", NO_INDEX, () -> automata.acceptsInput(slot));
-            Due.refuses("37: slot", NO_INDEX, () -> automata.wordCount(slot, 3));
-            Due.refuses("37: slot before length", NO_INDEX, () -> automata.wordCount(slot, -1));
-            Due.refuses("38: slot", NO_INDEX, () -> automata.wordCountWithPrefix(slot, 3));
-            Due.refuses("38: slot before length", NO_INDEX, () -> automata.wordCountWithPrefix(slot, 21));
-            Due.refuses("39: slot", NO_INDEX, () -> automata.shortestLength(slot));
-            Due.refuses("40: slot", NO_INDEX, () -> automata.isFinite(slot));
-            Due.refuses("41: slot", NO_INDEX, () -> automata.longestLength(slot));
-        }
-        Due.type(automata, "abc.");
-        for (int length : new int[] {-1, 21, Integer.MIN_VALUE, Integer.MAX_VALUE}) {
-            Due.refuses("37: length", NO_LENGTH, () -> automata.wordCount(0, length));
-            Due.refuses("38: length, whatever the prefix is", NO_LENGTH, () -> automata.wordCountWithPrefix(0, length));
-        }
     }
 }
