@@ -141,7 +141,7 @@ public final class ReportBoundsTest {
         written("by the first letter first: ", "bf|ca", "..", call, "bf");
         written("what one accepts does not count: ", "a|b", "c|b|", call, "b");
         written("the longest chain: ", CHAIN, ".+", call, CHAIN);
-        written("far: ", "(" + "f".repeat(21) + ")+", "(" + "f".repeat(22) + ")+", call, "f".repeat(462));
+        written("far: ", "(" + "f".repeat(19) + ")+", "(" + "f".repeat(20) + ")+", call, "f".repeat(380));
     }
 
     private static void writeSharedWordReturns() {
