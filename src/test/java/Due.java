@@ -77,8 +77,10 @@ final class Due {
 
     static String report(StreetAutomata automata) {
         StringBuilder text = new StringBuilder();
-        for (int index = 0; automata.reportByte(index) != StreetAutomata.NONE; index++) {
-            text.append((char) automata.reportByte(index));
+        int value = automata.reportByte(0);
+        while (value != StreetAutomata.NONE) {
+            text.append((char) value);
+            value = automata.reportByte(text.length());
         }
         return text.toString();
     }
