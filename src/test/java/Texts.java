@@ -21,6 +21,22 @@ final class Texts {
         return text.toString();
     }
 
+    /** A text about a limit: of the positions, of the open parentheses, of the states or of the bytes. */
+    String aboutLimit() {
+        int more = pick(5);
+        int open = 18 + more;
+        return switch (pick(8)) {
+            case 0 -> "(a|.b)?".repeat(7 + more) + "c*".repeat(pick(6));
+            case 1 -> "a|".repeat(pick(2)) + "(".repeat(open) + "b" + ")*".repeat(open - pick(2));
+            case 2 -> "(a|b)*a" + "(a|b)".repeat(2 + more);
+            case 3 -> ".*a" + ".?".repeat(2 + more);
+            case 4 -> "e" + "*+?".repeat(62 + more);
+            case 5 -> "()|".repeat(62 + more);
+            case 6 -> "(" + "f".repeat(20 + more) + ")*";
+            default -> "ab?c".repeat(7) + ")".repeat(pick(2)) + "d".repeat(more);
+        };
+    }
+
     private void addChoice(StringBuilder text, int depth) {
         addBranch(text, depth);
         while (pick(3) == 0) {
